@@ -548,7 +548,7 @@ public final class IdleDiscards {
         /** For each block the time of its range if it is queued; otherwise EMPTY, ALIVE or LOST, all below 0. */
         private final int[] blocks = new int[BLOCKS];
         private final int[] pinFirst = new int[PINS];
-        /** 0, with the first block 0, for a pin without a span: it overlaps nothing then. */
+        /** 0 for a pin without a span. */
         private final int[] pinLength = new int[PINS];
         private final int[] settings = new int[SETTINGS];
         private int time;
@@ -708,7 +708,7 @@ public final class IdleDiscards {
         /** Whether one of the blocks from that one on, ahead of the end, is pinned. */
         boolean isAnyPinned(int first, int end) {
             for (int k = 0; k < PINS; k++) {
-                if (pinFirst[k] < end && pinFirst[k] + pinLength[k] > first) {
+                if (hasPin(k) && pinFirst[k] < end && pinFirst[k] + pinLength[k] > first) {
                     return true;
                 }
             }
@@ -1037,7 +1037,6 @@ public final class IdleDiscards {
         }
 
         int firstError() {
-            at = 0;
             if (length == 0 || chars[0] != 'D') {
                 return 0;
             }

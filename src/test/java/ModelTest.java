@@ -1,6 +1,10 @@
 import java.util.Random;
 
-/** Long runs of calls, the same for the program and the model; the seeds are fixed, so each run is always the same. */
+/**
+ * Long runs of calls, the same for the program and the model; the seeds are fixed, so each run is always the same.
+ * An object has more than 512 calls here, for all its blocks are looked at again and again: the document leaves free
+ * what it answers then, but this program answers as before.
+ */
 public final class ModelTest {
     private static final int RUNS = 300;
     private static final int CALLS = 300;
