@@ -708,7 +708,7 @@ public final class IdleDiscards {
         /** Whether one of the blocks from that one on, ahead of the end, is pinned. */
         boolean isAnyPinned(int first, int end) {
             for (int k = 0; k < PINS; k++) {
-                if (hasPin(k) && pinFirst[k] < end && pinFirst[k] + pinLength[k] > first) {
+                if (pinLength[k] > 0 && pinFirst[k] < end && pinFirst[k] + pinLength[k] > first) {
                     return true;
                 }
             }

@@ -30,14 +30,6 @@ public final class ActionsTest {
         Check.due("range(" + k + ", 2)", x.range(k, 2), time);
     }
 
-    private static IdleDiscards full() {
-        IdleDiscards x = new IdleDiscards();
-        x.write(0, 99);
-        x.write(99, 99);
-        x.write(198, 58);
-        return x;
-    }
-
     private static void write() {
         IdleDiscards x = new IdleDiscards();
         Check.due("write(157, 99)", x.write(157, 99), 0);
@@ -98,7 +90,7 @@ public final class ActionsTest {
     }
 
     private static void freeMerges() {
-        IdleDiscards x = full();
+        IdleDiscards x = Devices.full();
         x.free(0, 4);
         x.free(30, 4);
         x.free(6, 2);
@@ -124,7 +116,7 @@ public final class ActionsTest {
         rangeIs(x, 2, 33, 1, 3);
         x.write(0, 19);
         rangeIs(x, 0, 19, 1, 3);
-        IdleDiscards y = full();
+        IdleDiscards y = Devices.full();
         y.free(0, 4);
         y.run(1);
         y.free(4, 1);
@@ -135,7 +127,7 @@ public final class ActionsTest {
     }
 
     private static void dropping() {
-        IdleDiscards x = full();
+        IdleDiscards x = Devices.full();
         for (int i = 0; i < 16; i++) {
             x.free(4 * i, 2);
         }
@@ -159,7 +151,7 @@ public final class ActionsTest {
         Check.due("free(100, 1), written once more", x.free(100, 1), 1);
         Check.due("block(100, 2)", x.block(100, 2), 6);
         Check.due("about(8) at the end", x.about(8), 2);
-        IdleDiscards y = full();
+        IdleDiscards y = Devices.full();
         for (int i = 0; i < 16; i++) {
             y.free(4 * i, 2);
         }
@@ -187,7 +179,7 @@ public final class ActionsTest {
     }
 
     private static void droppingBehindWrite() {
-        IdleDiscards x = full();
+        IdleDiscards x = Devices.full();
         for (int i = 0; i < 15; i++) {
             x.free(4 * i, 3);
         }
@@ -201,7 +193,7 @@ public final class ActionsTest {
     }
 
     private static void wrongSpans() {
-        IdleDiscards x = full();
+        IdleDiscards x = Devices.full();
         x.free(3, 9);
         x.run(1);
         String before = Check.view(x);
@@ -349,7 +341,7 @@ public final class ActionsTest {
 
     /** Three ranges: 8 blocks of the time 1, 20 of the time 0 with a pin in them, 12 of the time 0. */
     private static IdleDiscards ordered(int order) {
-        IdleDiscards x = full();
+        IdleDiscards x = Devices.full();
         x.free(40, 24);
         x.free(80, 12);
         x.run(1);
@@ -397,7 +389,7 @@ public final class ActionsTest {
     }
 
     private static void runDropsBehindACommand() {
-        IdleDiscards x = sixteenWithOneToPart();
+        IdleDiscards x = Devices.withOneToPart();
         Check.due("run(4)", x.run(4), 4);
         Check.due("about(2)", x.about(2), 16);
         Check.due("about(8)", x.about(8), 1);
@@ -409,18 +401,8 @@ public final class ActionsTest {
         Check.due("range(1, 2)", x.range(1, 2), 0);
     }
 
-    /** 15 ranges of 2 blocks, and one of 10 with a granule in its middle. */
-    private static IdleDiscards sixteenWithOneToPart() {
-        IdleDiscards x = full();
-        x.free(1, 10);
-        for (int i = 0; i < 15; i++) {
-            x.free(100 + 4 * i, 2);
-        }
-        return x;
-    }
-
     private static void runBesidePins() {
-        IdleDiscards x = full();
+        IdleDiscards x = Devices.full();
         x.free(0, 40);
         x.pin(0, 5, 1);
         x.pin(1, 15, 10);
@@ -437,7 +419,7 @@ public final class ActionsTest {
     }
 
     private static void flush() {
-        IdleDiscards x = full();
+        IdleDiscards x = Devices.full();
         Check.due("flush() of nothing", x.flush(), 0);
         x.run(1);
         x.free(0, 99);
@@ -459,7 +441,7 @@ public final class ActionsTest {
         x.set(0, 0);
         Check.due("flush() beside a pin: 60 in 4, 31 in 2, 5 in 1", x.flush(), 7);
         Check.due("about(3) behind it", x.about(3), 8);
-        IdleDiscards y = full();
+        IdleDiscards y = Devices.full();
         y.free(240, 16);
         Check.due("flush() at the end of the device", y.flush(), 1);
         Check.due("about(7)", y.about(7), 16);
@@ -468,13 +450,13 @@ public final class ActionsTest {
     }
 
     private static void flushDropsBehindACommand() {
-        IdleDiscards x = sixteenWithOneToPart();
+        IdleDiscards x = Devices.withOneToPart();
         Check.due("flush()", x.flush(), 1);
         Check.due("about(2)", x.about(2), 16);
         Check.due("about(8)", x.about(8), 1);
         Check.due("about(10)", x.about(10), 2);
         Check.due("block(100, 2)", x.block(100, 2), -1);
-        IdleDiscards y = full();
+        IdleDiscards y = Devices.full();
         y.free(0, 5);
         y.free(7, 10);
         for (int i = 0; i < 14; i++) {
@@ -542,7 +524,7 @@ public final class ActionsTest {
     }
 
     private static void undoTakesAllBack() {
-        IdleDiscards x = full();
+        IdleDiscards x = Devices.full();
         x.free(10, 20);
         x.run(4);
         x.pin(0, 20, 9);
@@ -555,7 +537,7 @@ public final class ActionsTest {
             x.undo();
             Check.same("the view behind the undo of the action " + i, Check.view(x), views[i]);
         }
-        IdleDiscards y = sixteenWithOneToPart();
+        IdleDiscards y = Devices.withOneToPart();
         String before = Check.view(y);
         y.free(90, 1);
         Check.due("about(8) behind a drop", y.about(8), 1);

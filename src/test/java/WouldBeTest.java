@@ -20,16 +20,8 @@ public final class WouldBeTest {
         }
     }
 
-    private static IdleDiscards full() {
-        IdleDiscards x = new IdleDiscards();
-        x.write(0, 99);
-        x.write(99, 99);
-        x.write(198, 58);
-        return x;
-    }
-
     private static void next() {
-        IdleDiscards x = full();
+        IdleDiscards x = Devices.full();
         nextIs(x, "of nothing", -1, -1, -1);
         x.free(3, 3);
         nextIs(x, "of less than a granule", -1, -1, -1);
@@ -65,7 +57,7 @@ public final class WouldBeTest {
     }
 
     private static void nextByOrders() {
-        IdleDiscards x = full();
+        IdleDiscards x = Devices.full();
         x.free(100, 8);
         x.free(200, 12);
         x.run(1);
@@ -82,7 +74,7 @@ public final class WouldBeTest {
     }
 
     private static void nextIsFar() {
-        IdleDiscards x = full();
+        IdleDiscards x = Devices.full();
         x.free(0, 4);
         x.set(3, 50);
         nextIs(x, "if it waits 50", 0, 4, 50);
@@ -94,7 +86,7 @@ public final class WouldBeTest {
     }
 
     private static void goneIn() {
-        IdleDiscards x = full();
+        IdleDiscards x = Devices.full();
         x.free(0, 50);
         x.free(99, 3);
         Check.due("goneIn(0)", x.goneIn(0), 4);
@@ -109,7 +101,7 @@ public final class WouldBeTest {
         Check.due("goneIn(24) at 4", x.goneIn(24), 1);
         Check.due("goneIn(255) of a new object", new IdleDiscards().goneIn(255), 0);
 
-        IdleDiscards y = full();
+        IdleDiscards y = Devices.full();
         y.set(0, 0);
         y.set(1, 0);
         y.set(2, 1);
@@ -123,8 +115,8 @@ public final class WouldBeTest {
         Check.due("goneIn(149) if it waits 50", y.goneIn(149), 100);
         Check.due("goneIn(150) if it waits 50", y.goneIn(150), -1);
 
-        Check.due("goneIn(100): dropped behind the command that parts a range", parting().goneIn(100), -1);
-        IdleDiscards z = parting();
+        Check.due("goneIn(100): dropped behind the command that parts a range", Devices.withOneToPart().goneIn(100), -1);
+        IdleDiscards z = Devices.withOneToPart();
         z.set(0, 1);
         Check.due("goneIn(100): the first command parts nothing", z.goneIn(100), 5);
         Check.due("goneIn(1): in no granule", z.goneIn(1), -1);
@@ -134,19 +126,9 @@ public final class WouldBeTest {
         }
     }
 
-    /** 15 ranges of 2 blocks, and one of 10 with a granule of 4 in its middle. */
-    private static IdleDiscards parting() {
-        IdleDiscards x = full();
-        x.free(1, 10);
-        for (int i = 0; i < 15; i++) {
-            x.free(100 + 4 * i, 2);
-        }
-        return x;
-    }
-
     /** Finds out by letting the ticks go by. */
     private static int ticksUntilGone(int b) {
-        IdleDiscards x = parting();
+        IdleDiscards x = Devices.withOneToPart();
         x.set(0, 1);
         x.set(2, 3);
         for (int ticks = 0; ticks <= 100; ticks++) {
@@ -165,7 +147,7 @@ public final class WouldBeTest {
     }
 
     private static void coming() {
-        IdleDiscards x = full();
+        IdleDiscards x = Devices.full();
         comingIs(x, 100, 0, 0, 0, 0);
         x.free(0, 50);
         x.free(99, 3);
@@ -186,7 +168,7 @@ public final class WouldBeTest {
     }
 
     private static void bestGranule() {
-        IdleDiscards x = full();
+        IdleDiscards x = Devices.full();
         Check.due("bestGranule(60) of nothing", x.bestGranule(60), 4);
         x.free(1, 30);
         Check.due("bestGranule(3): none is due before", x.bestGranule(3), 4);
@@ -204,7 +186,7 @@ public final class WouldBeTest {
     }
 
     private static void ifWritten() {
-        IdleDiscards x = full();
+        IdleDiscards x = Devices.full();
         Check.due("ifWritten(0, 99) of nothing", x.ifWritten(0, 99), 0);
         x.free(10, 10);
         x.free(30, 5);
@@ -231,7 +213,7 @@ public final class WouldBeTest {
     }
 
     private static void stuck() {
-        IdleDiscards x = full();
+        IdleDiscards x = Devices.full();
         Check.due("stuck() of nothing", x.stuck(), 0);
         x.free(0, 10);
         Check.due("stuck(): 8 and 9", x.stuck(), 2);
@@ -252,7 +234,7 @@ public final class WouldBeTest {
     }
 
     private static void wrongInputs() {
-        IdleDiscards x = full();
+        IdleDiscards x = Devices.full();
         for (int bad : new int[] {-1, 256, Integer.MIN_VALUE, Integer.MAX_VALUE}) {
             Check.argument("next(" + bad + ")", () -> x.next(bad));
             Check.index("goneIn(" + bad + ")", () -> x.goneIn(bad));
@@ -269,7 +251,7 @@ public final class WouldBeTest {
     }
 
     private static void nothingChanges() {
-        IdleDiscards x = parting();
+        IdleDiscards x = Devices.withOneToPart();
         x.pin(1, 108, 4);
         x.run(2);
         String before = Check.view(x);
