@@ -31,6 +31,7 @@ public final class LanguageTest {
             }
         }
         methodsAreShort(text);
+        objectsAreMadeInConstructors(code);
         Check.end();
     }
 
@@ -73,6 +74,20 @@ public final class LanguageTest {
                     Check.due("more than 60 lines from line " + (begin + 1), i - begin > 60 ? 1 : 0, 0);
                     begin = -1;
                 }
+            }
+        }
+    }
+
+    /** So that all calls of a run together make no more objects than the room of rule 12 has, however many they are. */
+    private static void objectsAreMadeInConstructors(String code) {
+        String member = "";
+        for (String line : code.split("\n")) {
+            if (line.matches("    (    )?(public|private|static|int|long|boolean|char|void|[A-Z]\\w*\\().*")) {
+                member = line.trim();
+            }
+            if (line.matches(".*\\bnew\\b.*") && !line.contains("throw new")) {
+                boolean fine = member.matches("(public )?[A-Z]\\w*\\(\\) \\{|private final .*");
+                Check.same("what is made in " + member, fine ? "" : line.trim(), "");
             }
         }
     }

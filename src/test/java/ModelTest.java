@@ -1,19 +1,32 @@
+import java.util.ArrayList;
+import java.util.List;
 import java.util.Random;
 
 /**
- * Long runs of calls, the same for the program and the model; the seeds are fixed, so each run is always the same.
- * An object has more than 512 calls here, for all its blocks are looked at again and again: the document leaves free
- * what it answers then, but this program answers as before.
+ * Runs of calls, the same for the program and the model; the seeds are fixed, so each run is always the same.
+ * All that there is at the end of a run is asked on other objects that have had the same calls, for no object is used
+ * for more calls than the document promises something about.
  */
 public final class ModelTest {
-    private static final int RUNS = 300;
-    private static final int CALLS = 300;
+    private static final int MOST_CALLS = 512;
+    private static final int RUNS = 1500;
+    /** A run ends soon behind so many calls; a text can be 120 more. */
+    private static final int LONGEST_RUN = 250;
 
-    private final IdleDiscards program = new IdleDiscards();
+    private interface Call {
+        long on(IdleDiscards x);
+    }
+
+    private interface ModelCall {
+        long answer();
+    }
+
+    private IdleDiscards program = new IdleDiscards();
+    private final List<Call> calls = new ArrayList<>();
+    private int callsOfProgram = 0;
     private final Model model = new Model();
     private final Random random;
     private final int seed;
-    private int calls = 0;
 
     private ModelTest(int seed) {
         this.seed = seed;
@@ -24,20 +37,49 @@ public final class ModelTest {
         for (int seed = 1; seed <= RUNS && Check.countWrong() < 10; seed++) {
             ModelTest test = new ModelTest(seed);
             test.settle();
-            for (int i = 0; i < CALLS && Check.countWrong() < 10; i++) {
+            int length = test.random.nextInt(LONGEST_RUN);
+            while (test.calls.size() < length && Check.countWrong() < 10) {
                 test.call();
-                if (i % 10 == 0) {
-                    test.compareAll();
-                }
             }
             test.compareAll();
         }
         Check.end();
     }
 
-    private void both(String call, Check.Call ofProgram, Check.Call ofModel) {
-        calls++;
-        Check.same("seed " + seed + ", call " + calls + ", " + call, Check.outcome(ofProgram), Check.outcome(ofModel));
+    private void both(String call, Call ofProgram, ModelCall ofModel) {
+        calls.add(ofProgram);
+        ask(call, ofProgram, ofModel);
+    }
+
+    /** Asks a question that is not put again to other objects. */
+    private void ask(String call, Call ofProgram, ModelCall ofModel) {
+        callsOfProgram++;
+        if (callsOfProgram > MOST_CALLS) {
+            throw new IllegalStateException("too many calls on one object");
+        }
+        Check.same("seed " + seed + ", call " + callsOfProgram + ", " + call, outcome(ofProgram), outcome(ofModel));
+    }
+
+    private void askOnOther(String call, Call ofProgram, ModelCall ofModel) {
+        if (callsOfProgram == MOST_CALLS) {
+            program = new IdleDiscards();
+            calls.forEach(this::outcome);
+            callsOfProgram = calls.size();
+        }
+        ask(call, ofProgram, ofModel);
+    }
+
+    private String outcome(Call call) {
+        return outcome(() -> call.on(program));
+    }
+
+    /** The answer as a text, or the exact class of what the call throws. */
+    private static String outcome(ModelCall call) {
+        try {
+            return Long.toString(call.answer());
+        } catch (RuntimeException e) {
+            return "throws." + e.getClass().getSimpleName();
+        }
     }
 
     /** Half of the runs begin with other settings and a device that is full, so that many things happen soon. */
@@ -80,15 +122,15 @@ public final class ModelTest {
     }
 
     private void write(int b, int n) {
-        both("write(" + b + ", " + n + ")", () -> program.write(b, n), () -> model.write(b, n));
+        both("write(" + b + ", " + n + ")", x -> x.write(b, n), () -> model.write(b, n));
     }
 
     private void free(int b, int n) {
-        both("free(" + b + ", " + n + ")", () -> program.free(b, n), () -> model.free(b, n));
+        both("free(" + b + ", " + n + ")", x -> x.free(b, n), () -> model.free(b, n));
     }
 
     private void set(int what, int v) {
-        both("set(" + what + ", " + v + ")", () -> program.set(what, v), () -> model.set(what, v));
+        both("set(" + what + ", " + v + ")", x -> x.set(what, v), () -> model.set(what, v));
     }
 
     private void call() {
@@ -116,11 +158,11 @@ public final class ModelTest {
 
     private void ticks() {
         if (random.nextInt(8) == 0) {
-            both("flush()", program::flush, model::flush);
+            both("flush()", IdleDiscards::flush, model::flush);
             return;
         }
         int n = random.nextInt(8) == 0 ? random.nextInt(64) - 1 : 1 + random.nextInt(5);
-        both("run(" + n + ")", () -> program.run(n), () -> model.run(n));
+        both("run(" + n + ")", x -> x.run(n), () -> model.run(n));
     }
 
     private void pinsAndSettings() {
@@ -129,14 +171,14 @@ public final class ModelTest {
         int n = length();
         switch (random.nextInt(4)) {
             case 0:
-                both("unpin(" + k + ")", () -> program.unpin(k), () -> model.unpin(k));
+                both("unpin(" + k + ")", x -> x.unpin(k), () -> model.unpin(k));
                 break;
             case 1:
                 int what = number(5);
                 set(what, number(what == 0 ? 4 : what == 1 ? 4 : what == 2 ? 40 : what == 3 ? 6 : what == 4 ? 5 : 2));
                 break;
             default:
-                both("pin(" + k + ", " + b + ", " + n + ")", () -> program.pin(k, b, n), () -> model.pin(k, b, n));
+                both("pin(" + k + ", " + b + ", " + n + ")", x -> x.pin(k, b, n), () -> model.pin(k, b, n));
                 break;
         }
     }
@@ -146,30 +188,30 @@ public final class ModelTest {
         switch (random.nextInt(6)) {
             case 0:
             case 1:
-                both("save(" + slot + ")", () -> program.save(slot), () -> model.save(slot));
+                both("save(" + slot + ")", x -> x.save(slot), () -> model.save(slot));
                 break;
             case 2:
-                both("restore(" + slot + ")", () -> program.restore(slot), () -> model.restore(slot));
+                both("restore(" + slot + ")", x -> x.restore(slot), () -> model.restore(slot));
                 break;
             default:
                 int times = random.nextInt(12) == 0 ? 16 : 1 + random.nextInt(3);
                 for (int i = 0; i < times; i++) {
-                    both("undo()", program::undo, model::undo);
+                    both("undo()", IdleDiscards::undo, model::undo);
                 }
                 break;
         }
     }
 
     private void text() {
-        both("clearText()", program::clearText, model::clearText);
+        both("clearText()", IdleDiscards::clearText, model::clearText);
         String text = log();
         for (int i = 0; i < text.length(); i++) {
             char c = text.charAt(i);
-            both("append(" + (int) c + ")", () -> program.append(c), () -> model.append(c));
+            both("append(" + (int) c + ")", x -> x.append(c), () -> model.append(c));
         }
-        both("errorPosition() of " + text, program::errorPosition, model::errorPosition);
+        both("errorPosition() of " + text, IdleDiscards::errorPosition, model::errorPosition);
         if (random.nextInt(3) == 0) {
-            both("load() of " + text, program::load, model::load);
+            both("load() of " + text, IdleDiscards::load, model::load);
         }
     }
 
@@ -196,9 +238,11 @@ public final class ModelTest {
             text.setLength(place);
         }
         if (random.nextInt(12) == 0) {
-            text.append("w00009f00001i05w10099w09999w19803f10002f10502w00009f00001i05w10099w09999w19803f10002f10502i60"
+            text.append("w00009f00001i05w10099w09999w19803f10002f10502w00009f00001i05w10099w09999w19803f10002f10502i60w00001"
                     .repeat(2));
         }
+        // A little more than the text buffer takes.
+        text.setLength(Math.min(text.length(), 122));
         return text.toString();
     }
 
@@ -208,24 +252,24 @@ public final class ModelTest {
         int what = number(3);
         switch (random.nextInt(6)) {
             case 0:
-                both("next(" + what + ")", () -> program.next(what), () -> model.next(what));
+                both("next(" + what + ")", x -> x.next(what), () -> model.next(what));
                 break;
             case 1:
-                both("goneIn(" + b + ")", () -> program.goneIn(b), () -> model.goneIn(b));
+                both("goneIn(" + b + ")", x -> x.goneIn(b), () -> model.goneIn(b));
                 break;
             case 2:
                 int ticks = number(100);
-                both("coming(" + ticks + ", " + what + ")", () -> program.coming(ticks, what), () -> model.coming(ticks, what));
+                both("coming(" + ticks + ", " + what + ")", x -> x.coming(ticks, what), () -> model.coming(ticks, what));
                 break;
             case 3:
                 int few = random.nextBoolean() ? number(60) : 1 + random.nextInt(6);
-                both("bestGranule(" + few + ")", () -> program.bestGranule(few), () -> model.bestGranule(few));
+                both("bestGranule(" + few + ")", x -> x.bestGranule(few), () -> model.bestGranule(few));
                 break;
             case 4:
-                both("ifWritten(" + b + ", " + n + ")", () -> program.ifWritten(b, n), () -> model.ifWritten(b, n));
+                both("ifWritten(" + b + ", " + n + ")", x -> x.ifWritten(b, n), () -> model.ifWritten(b, n));
                 break;
             default:
-                both("stuck()", program::stuck, model::stuck);
+                both("stuck()", IdleDiscards::stuck, model::stuck);
                 break;
         }
     }
@@ -234,7 +278,7 @@ public final class ModelTest {
         if (random.nextInt(3) == 0) {
             long first = random.nextLong();
             int m = number(60);
-            both("simulate(" + first + ", " + m + ")", () -> program.simulate(first, m), () -> model.simulate(first, m));
+            both("simulate(" + first + ", " + m + ")", x -> x.simulate(first, m), () -> model.simulate(first, m));
             return;
         }
         int n = number(3);
@@ -244,7 +288,7 @@ public final class ModelTest {
             script = script * 1000000 + group();
         }
         long all = random.nextInt(20) == 0 ? -script : script;
-        both("runScript(" + n + ", " + all + ")", () -> program.runScript(n, all), () -> model.runScript(n, all));
+        both("runScript(" + n + ", " + all + ")", x -> x.runScript(n, all), () -> model.runScript(n, all));
     }
 
     private long group() {
@@ -271,36 +315,36 @@ public final class ModelTest {
         int k = random.nextInt(19) - 1;
         int pin = number(2);
         int what = random.nextInt(14) - 2;
-        both("about(" + what + ")", () -> program.about(what), () -> model.about(what));
-        both("block(" + b + ", " + what + ")", () -> program.block(b, what), () -> model.block(b, what));
-        both("range(" + k + ", " + what + ")", () -> program.range(k, what), () -> model.range(k, what));
-        both("pinned(" + pin + ", " + what + ")", () -> program.pinned(pin, what), () -> model.pinned(pin, what));
-        both("setting(" + what + ")", () -> program.setting(what), () -> model.setting(what));
+        both("about(" + what + ")", x -> x.about(what), () -> model.about(what));
+        both("block(" + b + ", " + what + ")", x -> x.block(b, what), () -> model.block(b, what));
+        both("range(" + k + ", " + what + ")", x -> x.range(k, what), () -> model.range(k, what));
+        both("pinned(" + pin + ", " + what + ")", x -> x.pinned(pin, what), () -> model.pinned(pin, what));
+        both("setting(" + what + ")", x -> x.setting(what), () -> model.setting(what));
     }
 
     private void compareAll() {
         for (int what = 0; what <= 10; what++) {
             int w = what;
-            both("about(" + w + ")", () -> program.about(w), () -> model.about(w));
+            askOnOther("about(" + w + ")", x -> x.about(w), () -> model.about(w));
         }
         for (int b = 0; b < 256; b++) {
             for (int what = 0; what <= 3; what++) {
                 int at = b;
                 int w = what;
-                both("block(" + at + ", " + w + ")", () -> program.block(at, w), () -> model.block(at, w));
+                askOnOther("block(" + at + ", " + w + ")", x -> x.block(at, w), () -> model.block(at, w));
             }
         }
         for (int k = 0; k <= 16; k++) {
             for (int what = 0; what <= 5; what++) {
                 int at = k;
                 int w = what;
-                both("range(" + at + ", " + w + ")", () -> program.range(at, w), () -> model.range(at, w));
+                askOnOther("range(" + at + ", " + w + ")", x -> x.range(at, w), () -> model.range(at, w));
             }
         }
         for (int what = 0; what <= 5; what++) {
             int w = what;
-            both("setting(" + w + ")", () -> program.setting(w), () -> model.setting(w));
-            both("pinned(" + w / 2 + ", " + w % 2 + ")", () -> program.pinned(w / 2, w % 2), () -> model.pinned(w / 2, w % 2));
+            askOnOther("setting(" + w + ")", x -> x.setting(w), () -> model.setting(w));
+            askOnOther("pinned(" + w / 2 + ", " + w % 2 + ")", x -> x.pinned(w / 2, w % 2), () -> model.pinned(w / 2, w % 2));
         }
     }
 }
