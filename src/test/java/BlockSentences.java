@@ -110,6 +110,11 @@ final class BlockSentences {
         new Run(Given.FULL + "free(10, 5); run(1); free(15, 1); write(11, 5); ranges: 10+1@1");
         new Run(Given.FULL + "free(10, 5); run(1); free(9, 1); write(9, 5); ranges: 14+1@1");
         new Run(Given.FULL + "free(0, 9); free(10, 9); run(1); free(9, 1); write(1, 17); ranges: 0+1@1 18+1@1");
+        for (int b = 10; b <= 20; b++) {
+            Run run = new Run(Given.FULL + "free(10, 5); free(16, 5); run(1); free(15, 1); ranges: 10+11@1");
+            run.then(b > 10 ? "write(10, " + (b - 10) + ")" : "").then(b < 20 ? "write(" + (b + 1) + ", " + (20 - b) + ")" : "");
+            run.then("ranges: " + b + "+1@1");
+        }
         new Run(Given.FULL + "free(0, 5); run(1); free(5, 1); write(1, 5); ranges: 0+1@1");
         new Run(Given.FULL + "free(251, 5); run(1); free(250, 1); write(250, 5); ranges: 255+1@1");
         // A range without new blocks keeps its time.

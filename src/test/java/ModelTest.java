@@ -82,18 +82,37 @@ public final class ModelTest {
         }
     }
 
-    /** Half of the runs begin with other settings and a device that is full, so that many things happen soon. */
+    /** Most runs begin with other settings and a device that is full, so that many things happen soon. */
     private void settle() {
-        if (seed % 2 == 0) {
-            set(0, random.nextInt(5));
-            set(1, random.nextInt(3));
-            set(2, random.nextInt(41));
-            set(3, random.nextInt(8));
-            set(4, random.nextInt(4));
-            set(5, random.nextInt(3));
-            write(0, 99);
-            write(99, 99);
-            write(198, 58);
+        if (seed % 3 == 0) {
+            return;
+        }
+        boolean crowded = seed % 3 == 1;
+        set(0, random.nextInt(crowded ? 3 : 5));
+        set(1, random.nextInt(3));
+        set(2, random.nextInt(41));
+        set(3, random.nextInt(crowded ? 3 : 8));
+        set(4, random.nextInt(4));
+        set(5, random.nextInt(3));
+        write(0, 99);
+        write(99, 99);
+        write(198, 58);
+        if (crowded) {
+            crowd();
+        }
+    }
+
+    /** 14 to 16 ranges, and pins in some of them, so that commands and writings make too many. */
+    private void crowd() {
+        int ranges = 14 + random.nextInt(3);
+        for (int i = 0; i < ranges; i++) {
+            free(16 * i + random.nextInt(4), 3 + random.nextInt(9));
+            if (random.nextInt(6) == 0) {
+                run(1);
+            }
+        }
+        for (int k = 0; k < 3; k++) {
+            pin(k, random.nextInt(256), 1 + random.nextInt(20));
         }
     }
 
@@ -129,6 +148,14 @@ public final class ModelTest {
         both("free(" + b + ", " + n + ")", x -> x.free(b, n), () -> model.free(b, n));
     }
 
+    private void run(int n) {
+        both("run(" + n + ")", x -> x.run(n), () -> model.run(n));
+    }
+
+    private void pin(int k, int b, int n) {
+        both("pin(" + k + ", " + b + ", " + n + ")", x -> x.pin(k, b, n), () -> model.pin(k, b, n));
+    }
+
     private void set(int what, int v) {
         both("set(" + what + ", " + v + ")", x -> x.set(what, v), () -> model.set(what, v));
     }
@@ -161,8 +188,7 @@ public final class ModelTest {
             both("flush()", IdleDiscards::flush, model::flush);
             return;
         }
-        int n = random.nextInt(8) == 0 ? random.nextInt(64) - 1 : 1 + random.nextInt(5);
-        both("run(" + n + ")", x -> x.run(n), () -> model.run(n));
+        run(random.nextInt(8) == 0 ? random.nextInt(64) - 1 : 1 + random.nextInt(5));
     }
 
     private void pinsAndSettings() {
@@ -178,7 +204,7 @@ public final class ModelTest {
                 set(what, number(what == 0 ? 4 : what == 1 ? 4 : what == 2 ? 40 : what == 3 ? 6 : what == 4 ? 5 : 2));
                 break;
             default:
-                both("pin(" + k + ", " + b + ", " + n + ")", x -> x.pin(k, b, n), () -> model.pin(k, b, n));
+                pin(k, b, n);
                 break;
         }
     }
