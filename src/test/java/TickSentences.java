@@ -37,6 +37,10 @@ final class TickSentences {
                     + ", 1); next(0) = " + (256 - size) + "; next(1) = " + size + "; run(10) = " + size);
             new Run(all + "free(" + (256 - size) + ", " + (size - 1) + "); next(0) = -1; free(255, 1); run(10) = " + size);
         }
+        // Granules of one block, up to the last one of the device; a command looks no further.
+        new Run(Given.FULL + "set(0, 0); free(255, 1); next(0) = 255; next(1) = 1; run(4) = 1; held: 0-254");
+        new Run(Given.FULL + "set(0, 0); set(2, 40); free(250, 6); next(0) = 250; next(1) = 6; run(4) = 6; held: 0-249");
+        new Run(Given.FULL + "set(0, 0); free(250, 6); flush() = 1; held: 0-249");
         String everything = Given.FULL + "free(0, 99); free(99, 99); free(198, 58);";
         new Run(everything + "set(0, 0); range(0, 4) = 256; set(0, 4); range(0, 4) = 16; stuck() = 0; flush() = 1; held:");
     }
