@@ -16,8 +16,25 @@ final class Check {
         asked++;
         if (!got.equals(want)) {
             wrong++;
-            System.out.println((about.isEmpty() ? "" : about + "\n    ") + call + " answered " + got + ", due is " + want);
+            int from = firstDifference(got, want);
+            System.out.println((about.isEmpty() ? "" : about + "\n    ") + call + " answered " + part(got, from)
+                    + ", due is " + part(want, from));
         }
+    }
+
+    private static int firstDifference(String a, String b) {
+        int at = 0;
+        while (at < a.length() && at < b.length() && a.charAt(at) == b.charAt(at)) {
+            at++;
+        }
+        return at;
+    }
+
+    /** Whole states are long: of a long answer only what stands round the first difference is printed. */
+    private static String part(String answer, int at) {
+        int from = Math.max(0, at - 100);
+        int end = Math.min(answer.length(), at + 100);
+        return (from > 0 ? ".. " : "") + answer.substring(from, end) + (end < answer.length() ? " .." : "");
     }
 
     static void due(String call, long got, long want) {
